@@ -424,8 +424,8 @@ public final class ModelTests {
     }
 
     private static void same(int run, String name, Call real, Call model) {
-        String got = answer(real);
-        String want = answer(model);
+        String got = answer(real, "TaxEqualiser");
+        String want = answer(model, "ModelTests$Model");
         if (got.equals(want)) {
             passed++;
         } else {
@@ -434,11 +434,13 @@ public final class ModelTests {
         }
     }
 
-    private static String answer(Call call) {
+    // What the machine or the library throws in the thrower's place is told apart.
+    private static String answer(Call call, String thrower) {
         try {
             return Long.toString(call.run());
         } catch (RuntimeException e) {
-            return e.getClass().getName();
+            boolean own = e.getStackTrace()[0].getClassName().equals(thrower);
+            return own ? e.getClass().getName() : "the machine's " + e;
         }
     }
 }
