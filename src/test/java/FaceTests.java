@@ -58,6 +58,7 @@ public final class FaceTests {
         otherMembers();
         classesInside();
         text();
+        headings();
         System.out.println(passed + " passed, " + failed + " failed");
         if (failed != 0) {
             System.exit(1);
@@ -136,7 +137,7 @@ public final class FaceTests {
     }
 
     private static void text() throws IOException {
-        String source = Files.readString(Path.of(System.getProperty("source")));
+        String source = sourceText();
         for (String each : NOT_IN_THE_TEXT) {
             holds("the text has no " + each, !source.contains(each));
         }
@@ -145,5 +146,31 @@ public final class FaceTests {
                 holds(line, line.equals("import java.util.ArrayList;") || line.equals("import java.util.List;"));
             }
         }
+    }
+
+    // The face is told in the order of the document, each part under the heading that the document names.
+    private static void headings() throws IOException {
+        String source = sourceText();
+        int at = 0;
+        for (int i = 0; i < FACE.length; i++) {
+            if (i == 0) {
+                at = behind(source, "// ---- lands\n", at);
+            } else if (i == 5) {
+                at = behind(source, "// ---- people\n", at);
+            } else if (i == 12) {
+                at = behind(source, "// ---- taxes and settlements\n", at);
+            }
+            at = behind(source, "public " + FACE[i].substring(0, FACE[i].indexOf('(') + 1), at);
+        }
+    }
+
+    private static int behind(String source, String part, int from) {
+        int found = source.indexOf(part, from);
+        holds("stands where the document has it: " + part, found >= 0);
+        return found < 0 ? from : found + part.length();
+    }
+
+    private static String sourceText() throws IOException {
+        return Files.readString(Path.of(System.getProperty("source")));
     }
 }
