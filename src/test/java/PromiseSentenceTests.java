@@ -667,7 +667,8 @@ public final class PromiseSentenceTests {
 
     private static void held() {
         Sentences.section("Promise 14: held");
-        Sentences.sentence("Returns what is held back as supposed tax in a month; 0 in a month that is not abroad.", () -> {
+        Sentences.sentence("Returns what is held back as supposed tax in a month; 0 in a month that is not "
+            + "abroad.", () -> {
             TaxEqualiser x = Worlds.twoPeople();
             due("the month ahead", x.held(0, 2), 0);
             due("the first", x.held(0, 3), 516);

@@ -51,7 +51,8 @@ public final class TermsTests {
         Sentences.sentence("Divisions are rounded down, also below 0.", TermsTests::everyDivisionIsRoundedDown);
         Sentences.sentence("A method throws IndexOutOfBoundsException if there is no such person or bonus, "
             + "IllegalArgumentException if another argument is out of range, and IllegalStateException as it "
-            + "documents; if several apply, the one that it lists first is thrown.", TermsTests::theFirstListedIsThrown);
+            + "documents; if several apply, the one that it lists first is thrown.",
+            TermsTests::theFirstListedIsThrown);
         Sentences.sentence("A call that throws changes nothing.", TermsTests::refusedCallsChangeNothing);
     }
 
